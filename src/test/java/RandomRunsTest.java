@@ -1,0 +1,210 @@
+import java.lang.reflect.InvocationTargetException;
+import java.lang.reflect.Method;
+import java.util.ArrayList;
+import java.util.Arrays;
+import java.util.Comparator;
+import java.util.List;
+import java.util.Random;
+import java.util.TreeMap;
+
+/** Runs of 512 calls, right and wrong ones, on a garden and on the model: each answer is the same. */
+public final class RandomRunsTest {
+    private static final int RUNS = 1200;
+    private static final int CALLS = 512;
+
+    private static final TreeMap<String, int[]> outcomes = new TreeMap<>();
+
+    public static void main(String[] args) throws Exception {
+        Check check = new Check("RandomRunsTest");
+        List<Method> methods = new ArrayList<>();
+        for (Method method : Vaultgarden.class.getDeclaredMethods()) {
+            if (java.lang.reflect.Modifier.isPublic(method.getModifiers())) {
+                methods.add(method);
+            }
+        }
+        methods.sort(Comparator.comparing(Method::getName));
+        for (int run = 0; run < RUNS; run++) {
+            oneRun(check, methods, run);
+        }
+        // A run that never gets an answer of some kind would test nothing about it.
+        for (Method method : methods) {
+            int[] counts = outcomes.get(method.getName());
+            check.due(method.getName() + " answered at times", counts[0] > 100, true);
+            boolean isAlwaysAnswered = method.getExceptionTypes().length == 0;
+            check.due(method.getName() + " threw at times", counts[1] > 50, !isAlwaysAnswered);
+        }
+        check.end();
+    }
+
+    private static void oneRun(Check check, List<Method> methods, int run) throws Exception {
+        Random random = new Random(run);
+        Vaultgarden garden = new Vaultgarden();
+        Model model = new Model();
+        int style = run % 4;
+        StringBuilder trace = new StringBuilder();
+        for (int call = 0; call < CALLS; call++) {
+            Method method = pick(methods, random, style, call);
+            Object[] arguments = arguments(method, random, model);
+            Method twin = Model.class.getDeclaredMethod(method.getName(), method.getParameterTypes());
+            String got = answer(method, garden, arguments);
+            String want = answer(twin, model, arguments);
+            String told = method.getName() + Arrays.toString(arguments);
+            trace.append(told).append(" -> ").append(want).append('\n');
+            outcomes.computeIfAbsent(method.getName(), n -> new int[2])[want.startsWith("throws") ? 1 : 0]++;
+            check.due("run " + run + ", call " + call + ": " + told, got, want);
+            if (!got.equals(want)) {
+                System.out.println(trace);
+                check.end();
+            }
+        }
+    }
+
+    private static Method pick(List<Method> methods, Random random, int style, int call) {
+        String[] builders = {"addUser", "addUser", "addGroup", "join", "addFile", "write"};
+        String[] changers = {"write", "join", "leave", "leave", "tell", "ask", "draft", "comeBack", "goAway", "show",
+            "meet", "collect", "split"};
+        String[] writers = {"write", "join", "leave", "join", "comeBack", "draft", "goAway", "ask", "write"};
+        String name = null;
+        if (call < 40) {
+            name = builders[random.nextInt(builders.length)];
+        } else if (style == 1 && random.nextInt(3) > 0) {
+            name = changers[random.nextInt(changers.length)];
+        } else if (style == 2 && random.nextInt(8) > 0) {
+            name = writers[random.nextInt(writers.length)];
+        } else if (style == 3 && random.nextInt(4) > 0) {
+            name = random.nextBoolean() ? "tell" : changers[random.nextInt(changers.length)];
+        }
+        Method method = methods.get(random.nextInt(methods.size()));
+        // Forgetting, spoiling and throwing away end much; they come seldom, so that much can be ended.
+        boolean isSeldom = "forget spoil throwAway purge drop".contains(method.getName());
+        if (name == null && isSeldom && random.nextInt(4) > 0) {
+            name = "isSound";
+        }
+        for (Method other : methods) {
+            if (other.getName().equals(name)) {
+                method = other;
+            }
+        }
+        return method;
+    }
+
+    private static Object[] arguments(Method method, Random random, Model model) {
+        String[] kinds = kinds(method.getName()).split(" ");
+        Object[] arguments = new Object[method.getParameterCount()];
+        for (int i = 0; i < arguments.length; i++) {
+            arguments[i] = random.nextInt(60) == 0 && method.getParameterTypes()[i] == int.class
+                    ? Integer.valueOf(wild(random)) : argument(kinds[i], random, model);
+        }
+        return arguments;
+    }
+
+    private static int wild(Random random) {
+        int[] wild = {-1, Integer.MIN_VALUE, Integer.MAX_VALUE, 8, 20, 100, 65521, 301};
+        return wild[random.nextInt(wild.length)];
+    }
+
+    private static Object argument(String kind, Random random, Model model) {
+        int leaves = model.leaves();
+        switch (kind) {
+            case "user":
+                return random.nextInt(Math.max(1, model.users.size() + random.nextInt(10) / 9));
+            case "group":
+                return random.nextInt(Math.max(1, Math.min(model.groups.size(), 1 + random.nextInt(6))
+                        + random.nextInt(10) / 9));
+            case "file":
+                return random.nextInt(Math.max(1, Math.min(model.files.size(), 1 + random.nextInt(24))
+                        + random.nextInt(10) / 9));
+            case "part":
+                return random.nextInt(30) == 0 ? 8 : random.nextInt(1 + random.nextInt(8));
+            case "word":
+                return random.nextInt(20) == 0 ? 98 + random.nextInt(4) : random.nextInt(1 + random.nextInt(20));
+            case "secret":
+                return random.nextInt(20) == 0 ? 9998 + random.nextInt(4) : random.nextInt(10000);
+            case "quota":
+                return random.nextInt(42);
+            case "value":
+                return random.nextInt();
+            case "bits":
+                return random.nextBoolean() ? 1 << random.nextInt(3) : random.nextInt(2);
+            case "leaves":
+                return random.nextInt(3) == 0 ? leaves : random.nextInt(leaves + 2);
+            case "most":
+                return Math.max(-1, leaves - random.nextInt(12));
+            case "place":
+                return random.nextInt(10) - (random.nextInt(9) == 0 ? 1 : 0);
+            case "many":
+                return random.nextInt(10);
+            case "share":
+                return random.nextInt(20) == 0 ? 65519 + random.nextInt(3) : random.nextInt(65521);
+            case "boolean":
+                return random.nextBoolean();
+            case "letter":
+                return "nrfx".charAt(random.nextInt(4));
+            default:
+                return random.nextInt(4) - (random.nextInt(9) == 0 ? 1 : 0);
+        }
+    }
+
+    private static String kinds(String method) {
+        switch (method) {
+            case "addUser":
+                return "secret";
+            case "addGroup":
+                return "user quota";
+            case "join": case "isMember": case "known": case "addFile":
+                return "group user";
+            case "leave":
+                return "group user boolean";
+            case "write": case "draft":
+                return "user file part value";
+            case "read": case "canRead": case "canReadByGrants":
+                return "user file part";
+            case "cipher": case "version": case "writes":
+                return "file part";
+            case "spoil":
+                return "file part bits";
+            case "mark": case "status":
+                return "file";
+            case "throwAway":
+                return "user file";
+            case "tell":
+                return "user file word";
+            case "ask":
+                return "user group word";
+            case "shown":
+                return "letter";
+            case "epoch": case "parts": case "load": case "loadBits":
+                return "group";
+            case "leaf": case "root":
+                return "leaves";
+            case "forget":
+                return "most";
+            case "proofLength": case "prefixLength":
+                return "leaves leaves";
+            case "proofAt": case "prefixAt":
+                return "leaves leaves place";
+            case "show":
+                return "user leaves";
+            case "meet":
+                return "user user";
+            case "split":
+                return "user many many";
+            case "share":
+                return "user place";
+            case "collect":
+                return "place share";
+            case "head": case "alarms": case "goAway": case "comeBack":
+                return "user";
+            default:
+                return "index";
+        }
+    }
+
+    private static String answer(Method method, Object target, Object[] arguments) throws IllegalAccessException {
+        try {
+            return String.valueOf(method.invoke(target, arguments));
+        } catch (InvocationTargetException e) {
+            return "throws." + e.getCause().getClass().getSimpleName();
+        }
+    }
+}
