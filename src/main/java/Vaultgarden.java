@@ -144,7 +144,7 @@ public final class Vaultgarden {
         if (!isKeyKnown(user, target, wanted)) {
             throw new UnsupportedOperationException("the user cannot read it");
         }
-        return target.opened(wanted);
+        return wanted.opened();
     }
 
     public boolean canRead(int user, int file, int part) throws NoSuchElementException, IllegalArgumentException {
@@ -267,16 +267,16 @@ public final class Vaultgarden {
     }
 
     public int shown(char what) throws IllegalArgumentException {
-        switch (what) {
-            case 'n':
-                return words.newTokens;
-            case 'r':
-                return words.repeatedTokens;
-            case 'f':
-                return words.toldFiles;
-            default:
-                throw new IllegalArgumentException("there is no such letter");
+        if (what == 'n') {
+            return words.newTokens;
         }
+        if (what == 'r') {
+            return words.repeatedTokens;
+        }
+        if (what == 'f') {
+            return words.toldFiles;
+        }
+        throw new IllegalArgumentException("there is no such letter");
     }
 
     // ---- the log ----
@@ -437,7 +437,8 @@ public final class Vaultgarden {
         back.isAway = false;
         conflictCount = 0;
         int written = 0;
-        for (int i = 0; i < back.drafts.count(); i++) {
+        int drafted = back.drafts.count();
+        for (int i = 0; i < drafted && i < MOST_DRAFTS; i++) {
             if (becomesWrite(back, i)) {
                 written++;
             } else {
@@ -675,7 +676,7 @@ public final class Vaultgarden {
         for (int i = 0; i < PARTS; i++) {
             Part part = file.partAt(i);
             if (part != null) {
-                if (isReadable && file.opened(part) != part.written) {
+                if (isReadable && part.opened() != part.written) {
                     return false;
                 }
                 if (!doBothWaysAgree(file, part)) {
@@ -894,16 +895,21 @@ public final class Vaultgarden {
     }
 
     private static final class Part {
+        final int number;
         int written;
         int cipher;
+        int key;
         int version;
         int epoch;
         int writeCount;
         int moment;
-        final int number;
 
         Part(int number) {
             this.number = number;
+        }
+
+        int opened() {
+            return Ciphers.unseal(cipher, key);
         }
     }
 
@@ -914,13 +920,17 @@ public final class Vaultgarden {
         int epoch;
         int keptMark;
         boolean isThrownAway;
+        private final int emptyMark;
+        private int versionKey;
         private final Part[] parts = new Part[PARTS];
 
         KeptFile(int number, Group group) {
             this.number = number;
             this.group = group;
             this.epoch = group.epoch;
-            this.keptMark = Ciphers.mix(6, number);
+            this.emptyMark = Ciphers.mix(6, number);
+            this.keptMark = emptyMark;
+            this.versionKey = Ciphers.mix(Ciphers.mix(4, number), version);
         }
 
         Part partAt(int part) {
@@ -944,10 +954,6 @@ public final class Vaultgarden {
 
         boolean isSpoiled() {
             return keptMark != markOfParts();
-        }
-
-        int opened(Part part) {
-            return Ciphers.unseal(part.cipher, keyOf(part));
         }
 
         // Answers the cipher of the part.
@@ -976,7 +982,7 @@ public final class Vaultgarden {
             for (int i = 0; i < parts.length; i++) {
                 Part part = parts[i];
                 if (part != null) {
-                    sealPart(part, opened(part), moment);
+                    sealPart(part, part.opened(), moment);
                     anew++;
                 }
             }
@@ -995,22 +1001,19 @@ public final class Vaultgarden {
         private void turnKey() {
             version++;
             epoch = group.epoch;
+            versionKey = Ciphers.mix(Ciphers.mix(4, number), version);
         }
 
         private void sealPart(Part part, int value, int moment) {
             part.version = version;
             part.epoch = epoch;
             part.moment = moment;
-            part.cipher = Ciphers.seal(value, keyOf(part));
-        }
-
-        private int keyOf(Part part) {
-            int versionKey = Ciphers.mix(Ciphers.mix(4, number), part.version);
-            return Ciphers.mix(versionKey, part.number);
+            part.key = Ciphers.mix(versionKey, part.number);
+            part.cipher = Ciphers.seal(value, part.key);
         }
 
         private int markOfParts() {
-            int found = Ciphers.mix(6, number);
+            int found = emptyMark;
             for (int i = 0; i < parts.length; i++) {
                 Part part = parts[i];
                 if (part != null) {
