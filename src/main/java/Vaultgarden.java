@@ -676,7 +676,7 @@ public final class Vaultgarden {
         for (int i = 0; i < PARTS; i++) {
             Part part = file.partAt(i);
             if (part != null) {
-                if (isReadable && part.opened() != part.written) {
+                if (isReadable && part.opened() != part.value) {
                     return false;
                 }
                 if (!doBothWaysAgree(file, part)) {
@@ -896,7 +896,8 @@ public final class Vaultgarden {
 
     private static final class Part {
         final int number;
-        int written;
+        // Kept beside the cipher, because a spoiled cipher can have the mark of the sound one.
+        int value;
         int cipher;
         int key;
         int version;
@@ -969,9 +970,9 @@ public final class Vaultgarden {
                 target = new Part(part);
                 parts[part] = target;
             }
-            target.written = value;
+            target.value = value;
             target.writeCount++;
-            sealPart(target, value, moment);
+            sealPart(target, moment);
             keptMark = markOfParts();
             return target.cipher;
         }
@@ -982,7 +983,7 @@ public final class Vaultgarden {
             for (int i = 0; i < parts.length; i++) {
                 Part part = parts[i];
                 if (part != null) {
-                    sealPart(part, part.opened(), moment);
+                    sealPart(part, moment);
                     anew++;
                 }
             }
@@ -1004,12 +1005,12 @@ public final class Vaultgarden {
             versionKey = Ciphers.mix(Ciphers.mix(4, number), version);
         }
 
-        private void sealPart(Part part, int value, int moment) {
+        private void sealPart(Part part, int moment) {
             part.version = version;
             part.epoch = epoch;
             part.moment = moment;
             part.key = Ciphers.mix(versionKey, part.number);
-            part.cipher = Ciphers.seal(value, part.key);
+            part.cipher = Ciphers.seal(part.value, part.key);
         }
 
         private int markOfParts() {

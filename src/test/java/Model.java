@@ -211,9 +211,8 @@ final class Model {
                 file.parts.forEach((p, it) -> held.add(p));
                 for (int p : held) {
                     P1 it = file.parts.get(p);
-                    int has = unseal(it.cipher, keyOfPart(f, it.version, p));
                     it.version = file.epochOfVersion.size();
-                    it.cipher = seal(has, keyOfPart(f, it.version, p));
+                    it.cipher = seal(it.value, keyOfPart(f, it.version, p));
                     history.add(new int[] {'w', f, p});
                     anew++;
                 }

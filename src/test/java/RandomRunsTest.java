@@ -3,16 +3,22 @@ import java.lang.reflect.Method;
 import java.util.ArrayList;
 import java.util.Arrays;
 import java.util.Comparator;
+import java.util.HashMap;
 import java.util.List;
+import java.util.Map;
 import java.util.Random;
 import java.util.TreeMap;
 
 /** Runs of 512 calls, right and wrong ones, on a garden and on the model: each answer is the same. */
 public final class RandomRunsTest {
     private static final int RUNS = 1200;
+    /** Runs behind the others, in which the server spoils parts in such a way that the marks stay. */
+    private static final int SLY_RUNS = 80;
     private static final int CALLS = 512;
 
     private static final TreeMap<String, int[]> outcomes = new TreeMap<>();
+    private static int sameMarks;
+    private static int rewrittenSameMarks;
 
     public static void main(String[] args) throws Exception {
         Check check = new Check("RandomRunsTest");
@@ -23,7 +29,7 @@ public final class RandomRunsTest {
             }
         }
         methods.sort(Comparator.comparing(Method::getName));
-        for (int run = 0; run < RUNS; run++) {
+        for (int run = 0; run < RUNS + SLY_RUNS; run++) {
             oneRun(check, methods, run);
         }
         // A run that never gets an answer of some kind would test nothing about it.
@@ -33,6 +39,8 @@ public final class RandomRunsTest {
             boolean isAlwaysAnswered = method.getExceptionTypes().length == 0;
             check.due(method.getName() + " threw at times", counts[1] > 50, !isAlwaysAnswered);
         }
+        check.due("parts were spoiled and kept the mark at times", sameMarks > 100, true);
+        check.due("such parts were written anew at times", rewrittenSameMarks > 20, true);
         check.end();
     }
 
@@ -41,22 +49,78 @@ public final class RandomRunsTest {
         Vaultgarden garden = new Vaultgarden();
         Model model = new Model();
         int style = run % 4;
+        boolean isSly = run >= RUNS;
         StringBuilder trace = new StringBuilder();
         for (int call = 0; call < CALLS; call++) {
+            Object[][] sly = isSly && call > 40 && random.nextInt(40) == 0 ? slySpoiling(model, random) : null;
+            if (sly != null && call + 1 < CALLS) {
+                oneCall(check, garden, model, named(methods, "write"), sly[0], trace);
+                oneCall(check, garden, model, named(methods, "spoil"), sly[1], trace);
+                boolean isUnseen = model.status((Integer) sly[1][0]) == 'o' && !model.isSound();
+                sameMarks += isUnseen ? 1 : 0;
+                call++;
+                continue;
+            }
             Method method = pick(methods, random, style, call);
-            Object[] arguments = arguments(method, random, model);
-            Method twin = Model.class.getDeclaredMethod(method.getName(), method.getParameterTypes());
-            String got = answer(method, garden, arguments);
-            String want = answer(twin, model, arguments);
-            String told = method.getName() + Arrays.toString(arguments);
-            trace.append(told).append(" -> ").append(want).append('\n');
-            outcomes.computeIfAbsent(method.getName(), n -> new int[2])[want.startsWith("throws") ? 1 : 0]++;
-            check.due("run " + run + ", call " + call + ": " + told, got, want);
-            if (!got.equals(want)) {
-                System.out.println(trace);
-                check.end();
+            boolean wasSound = !method.getName().equals("leave") || model.isSound();
+            oneCall(check, garden, model, method, arguments(method, random, model), trace);
+            rewrittenSameMarks += !wasSound && model.isSound() ? 1 : 0;
+        }
+    }
+
+    private static void oneCall(Check check, Vaultgarden garden, Model model, Method method, Object[] arguments,
+            StringBuilder trace) throws Exception {
+        Method twin = Model.class.getDeclaredMethod(method.getName(), method.getParameterTypes());
+        String got = answer(method, garden, arguments);
+        String want = answer(twin, model, arguments);
+        String told = method.getName() + Arrays.toString(arguments);
+        trace.append(told).append(" -> ").append(want).append('\n');
+        outcomes.computeIfAbsent(method.getName(), n -> new int[2])[want.startsWith("throws") ? 1 : 0]++;
+        check.due(told, got, want);
+        if (!got.equals(want)) {
+            System.out.println(trace);
+            check.end();
+        }
+    }
+
+    /** The arguments of a write and of a spoiling behind it that leaves the file's mark; null if none can be. */
+    private static Object[][] slySpoiling(Model model, Random random) {
+        if (model.files.isEmpty()) {
+            return null;
+        }
+        int file = random.nextInt(model.files.size());
+        int part = random.nextInt(8);
+        Model.F it = model.files.get(file);
+        Model.G group = model.groups.get(it.group);
+        boolean isTurned = it.epochOfVersion.get(it.epochOfVersion.size() - 1) != group.epoch;
+        int version = it.epochOfVersion.size() - (isTurned ? 0 : 1);
+        int before = Model.mix(6, file);
+        for (int other : it.parts.headMap(part).keySet()) {
+            before = Model.mix(before, it.parts.get(other).cipher ^ other);
+        }
+        int[] ciphers = ciphersOfSameMark(before, part);
+        int value = Model.unseal(ciphers[0], Model.keyOfPart(file, version, part));
+        return new Object[][] {{group.owner, file, part, value}, {file, part, ciphers[0] ^ ciphers[1]}};
+    }
+
+    /** Among some hundred thousand ciphers, two come to the same mark. */
+    static int[] ciphersOfSameMark(int before, int part) {
+        Map<Integer, Integer> cipherOfMark = new HashMap<>();
+        for (int cipher = 0;; cipher++) {
+            Integer earlier = cipherOfMark.put(Model.mix(before, cipher ^ part), cipher);
+            if (earlier != null) {
+                return new int[] {earlier, cipher};
             }
         }
+    }
+
+    private static Method named(List<Method> methods, String name) {
+        for (Method method : methods) {
+            if (method.getName().equals(name)) {
+                return method;
+            }
+        }
+        throw new IllegalArgumentException(name);
     }
 
     private static Method pick(List<Method> methods, Random random, int style, int call) {
@@ -80,12 +144,7 @@ public final class RandomRunsTest {
         if (name == null && isSeldom && random.nextInt(4) > 0) {
             name = "isSound";
         }
-        for (Method other : methods) {
-            if (other.getName().equals(name)) {
-                method = other;
-            }
-        }
-        return method;
+        return name == null ? method : named(methods, name);
     }
 
     private static Object[] arguments(Method method, Random random, Model model) {

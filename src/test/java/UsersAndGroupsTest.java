@@ -13,6 +13,7 @@ public final class UsersAndGroupsTest {
         addGroup();
         join();
         leave();
+        leaveWithSameMark();
         isMember();
         epochAndKnown();
         userNoughtAsMember();
@@ -138,6 +139,33 @@ public final class UsersAndGroupsTest {
         x.join(0, 2);
         x.leave(0, 2, true);
         check.due("files without parts are turned, too", x.write(0, 4, 0, 1), 1);
+    }
+
+    /** The bits leave the mark, so that the file is not spoiled: it is turned, and its parts have what was written. */
+    private static void leaveWithSameMark() {
+        Vaultgarden x = garden(2);
+        x.addGroup(0, 2);
+        x.join(0, 1);
+        x.addFile(0, 0);
+        x.write(0, 0, 0, -444361899);
+        int mark = x.mark(0);
+        check.due("spoil(0, 0, 8365)", x.spoil(0, 0, 8365), 62532);
+        check.due("the mark of the parts", Model.mix(Model.mix(6, 0), 62532), mark);
+        x.write(0, 0, 3, 9);
+        check.due("a write of another part leaves the cipher", x.cipher(0, 0), 62532);
+        check.due("status(0), the same mark", x.status(0), 'o');
+        check.due("isSound(), the same mark", x.isSound(), false);
+        check.due("leave(0, 1, false)", x.leave(0, 1, false), 0);
+        check.due("the cipher, not at once", x.cipher(0, 0), 62532);
+        x.join(0, 1);
+        check.due("leave(0, 1, true)", x.leave(0, 1, true), 2);
+        check.due("the value stays, the same mark", x.read(0, 0, 0), -444361899);
+        check.due("its cipher", x.cipher(0, 0), Model.seal(-444361899, Model.keyOfPart(0, 1, 0)));
+        check.due("that of the other part", x.cipher(0, 3), Model.seal(9, Model.keyOfPart(0, 1, 3)));
+        check.due("the mark, written anew", x.mark(0),
+                Model.mix(Model.mix(Model.mix(6, 0), x.cipher(0, 0)), x.cipher(0, 3) ^ 3));
+        check.due("writes(0, 0), written anew", x.writes(0, 0), 1);
+        check.due("isSound(), written anew", x.isSound(), true);
     }
 
     private static void isMember() {
