@@ -17,6 +17,8 @@ public final class RandomRunsTest {
     private static final int CALLS = 512;
 
     private static final TreeMap<String, int[]> outcomes = new TreeMap<>();
+    /** How often a method threw an exception, by both names. */
+    private static final TreeMap<String, Integer> thrown = new TreeMap<>();
     private static int sameMarks;
     private static int rewrittenSameMarks;
 
@@ -38,6 +40,10 @@ public final class RandomRunsTest {
             check.due(method.getName() + " answered at times", counts[0] > 100, true);
             boolean isAlwaysAnswered = method.getExceptionTypes().length == 0;
             check.due(method.getName() + " threw at times", counts[1] > 50, !isAlwaysAnswered);
+            for (Class<?> exception : method.getExceptionTypes()) {
+                String told = method.getName() + " throws." + exception.getSimpleName();
+                check.due(told + " at times", thrown.getOrDefault(told, 0) > 5, true);
+            }
         }
         check.due("parts were spoiled and kept the mark at times", sameMarks > 100, true);
         check.due("such parts were written anew at times", rewrittenSameMarks > 20, true);
@@ -51,7 +57,8 @@ public final class RandomRunsTest {
         int style = run % 4;
         boolean isSly = run >= RUNS;
         StringBuilder trace = new StringBuilder();
-        for (int call = 0; call < CALLS; call++) {
+        int begun = run % 10 == 7 ? fill(check, garden, model, methods, trace) : 0;
+        for (int call = begun; call < CALLS; call++) {
             Object[][] sly = isSly && call > 40 && random.nextInt(40) == 0 ? slySpoiling(model, random) : null;
             if (sly != null && call + 1 < CALLS) {
                 oneCall(check, garden, model, named(methods, "write"), sly[0], trace);
@@ -68,6 +75,33 @@ public final class RandomRunsTest {
         }
     }
 
+    /** Nearly as many files and leaves as there can be; answers how many calls this took. */
+    private static int fill(Check check, Vaultgarden garden, Model model, List<Method> methods, StringBuilder trace)
+            throws Exception {
+        List<Object[]> calls = new ArrayList<>();
+        for (int user = 0; user < 5; user++) {
+            calls.add(new Object[] {"addUser", 2000 * user});
+        }
+        for (int group = 0; group < 2; group++) {
+            calls.add(new Object[] {"addGroup", group, 10 + 30 * group});
+        }
+        for (int user = 1; user < 4; user++) {
+            calls.add(new Object[] {"join", 0, user});
+        }
+        for (int file = 0; file < 19; file++) {
+            calls.add(new Object[] {"addFile", file % 2, file % 2});
+        }
+        for (int leaf = 3; leaf < 290; leaf++) {
+            int file = leaf % 5;
+            calls.add(new Object[] {"write", file % 2, file, leaf % 3, leaf});
+        }
+        for (Object[] call : calls) {
+            Object[] arguments = Arrays.copyOfRange(call, 1, call.length);
+            oneCall(check, garden, model, named(methods, (String) call[0]), arguments, trace);
+        }
+        return calls.size();
+    }
+
     private static void oneCall(Check check, Vaultgarden garden, Model model, Method method, Object[] arguments,
             StringBuilder trace) throws Exception {
         Method twin = Model.class.getDeclaredMethod(method.getName(), method.getParameterTypes());
@@ -76,6 +110,9 @@ public final class RandomRunsTest {
         String told = method.getName() + Arrays.toString(arguments);
         trace.append(told).append(" -> ").append(want).append('\n');
         outcomes.computeIfAbsent(method.getName(), n -> new int[2])[want.startsWith("throws") ? 1 : 0]++;
+        if (want.startsWith("throws")) {
+            thrown.merge(method.getName() + " " + want, 1, Integer::sum);
+        }
         check.due(told, got, want);
         if (!got.equals(want)) {
             System.out.println(trace);
