@@ -30,6 +30,7 @@ public final class BoundsOfWordsTest {
         reasonsOfAsk();
         tokensOfAllEpochsKnown();
         newAndRepeated();
+        thousandsOfTokensRepeated();
         filesThrownAwayIncluded();
         allFilesTold();
         foundAtNone();
@@ -233,6 +234,21 @@ public final class BoundsOfWordsTest {
         s.with(x -> x.leave(0, 1, false));
         s.due("ask(0, 0, 0), in another epoch", 0, x -> x.ask(0, 0, 0));
         shown(s, 5, 2);
+    }
+
+    /** The same of all words in 101 epochs, each asked for twice: no token that was shown is ever new again. */
+    private static void thousandsOfTokensRepeated() {
+        Scene s = Scene.garden(check);
+        for (int i = 0; i < 100; i++) {
+            s.with(x -> x.leave(0, 1, false)).with(x -> x.join(0, 1));
+        }
+        for (int asked = 0; asked < 200; asked++) {
+            int word = asked % 100;
+            s.with(x -> x.ask(1, 0, word));
+            if (asked % 100 == 99) {
+                shown(s, 10100, asked < 100 ? 0 : 10100);
+            }
+        }
     }
 
     private static void shown(Scene s, int fresh, int repeated) {
