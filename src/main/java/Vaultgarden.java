@@ -1170,6 +1170,8 @@ public final class Vaultgarden {
         private static final int FIRST_SIZE = 256;
         // In 512 calls fewer than 21,000 tokens can be shown: 100 words for some 205 epochs.
         private static final int MOST_TOKENS = 32768;
+        // Twice as many, so that there is always an empty slot to end a search.
+        private static final int MOST_SLOTS = 65536;
 
         private int[] slots = new int[FIRST_SIZE];
         private int count;
@@ -1195,7 +1197,11 @@ public final class Vaultgarden {
         }
 
         private void grow() {
-            int[] more = new int[2 * slots.length];
+            int size = 2 * slots.length;
+            if (size < FIRST_SIZE || size > MOST_SLOTS) {
+                return;
+            }
+            int[] more = new int[size];
             for (int i = 0; i < slots.length; i++) {
                 int slot = slots[i] == 0 ? -1 : slotFor(more, slots[i]);
                 if (slot >= 0 && slot < more.length) {
@@ -1256,7 +1262,7 @@ public final class Vaultgarden {
         }
 
         int rootOf(int leaves) {
-            return rootOfRange(0, leaves, 0);
+            return rootOfRange(kept, 0, leaves, 0);
         }
 
         // Fills the row from the greatest part of the tree to the smallest, and answers its length.
@@ -1267,10 +1273,10 @@ public final class Vaultgarden {
             for (int level = 0; level < MOST_LEVELS && size > 1; level++) {
                 int first = firstOnes(size);
                 if (index < from + first) {
-                    addToRow(rootOfRange(from + first, size - first, level));
+                    addToRow(rootOfRange(kept, from + first, size - first, level));
                     size = first;
                 } else {
-                    addToRow(rootOfRange(from, first, level));
+                    addToRow(rootOfRange(kept, from, first, level));
                     from += first;
                     size -= first;
                 }
@@ -1286,16 +1292,16 @@ public final class Vaultgarden {
             for (int level = 0; level < MOST_LEVELS && from + size != fewer; level++) {
                 int first = firstOnes(size);
                 if (fewer <= from + first) {
-                    addToRow(rootOfRange(from + first, size - first, level));
+                    addToRow(rootOfRange(kept, from + first, size - first, level));
                     size = first;
                 } else {
-                    addToRow(rootOfRange(from, first, level));
+                    addToRow(rootOfRange(kept, from, first, level));
                     from += first;
                     size -= first;
                 }
             }
             if (from > 0) {
-                addToRow(rootOfRange(from, size, 0));
+                addToRow(rootOfRange(kept, from, size, 0));
             }
             return rowLength;
         }
@@ -1313,16 +1319,16 @@ public final class Vaultgarden {
             }
         }
 
-        private int rootOfRange(int from, int size, int level) {
-            if (size < 1 || level > MOST_LEVELS) {
+        private static int rootOfRange(int[] leaves, int from, int size, int level) {
+            if (size < 1 || level > MOST_LEVELS || from < 0 || from >= leaves.length) {
                 return 0;
             }
             if (size == 1) {
-                return Ciphers.mix(8, leafAt(from));
+                return Ciphers.mix(8, leaves[from]);
             }
             int first = firstOnes(size);
-            int rootOfFirst = rootOfRange(from, first, level + 1);
-            int rootOfOthers = rootOfRange(from + first, size - first, level + 1);
+            int rootOfFirst = rootOfRange(leaves, from, first, level + 1);
+            int rootOfOthers = rootOfRange(leaves, from + first, size - first, level + 1);
             return Ciphers.mix(Ciphers.mix(9, rootOfFirst), rootOfOthers);
         }
 

@@ -15,16 +15,35 @@ public final class FaceTest {
 
     public static void main(String[] args) throws IOException {
         face();
+        declarations();
         nothingElse();
         text();
         check.end();
     }
 
-    private static void face() throws IOException {
-        TreeSet<String> want = new TreeSet<>();
+    private static String faceOfDocument() throws IOException {
         String document = Files.readString(Path.of("../shared/DOC.md"));
         String part = document.substring(document.indexOf("public final class"));
-        part = part.substring(0, part.indexOf("```"));
+        return part.substring(0, part.indexOf("```"));
+    }
+
+    /** Each declaration stands in the class as it stands in the document, with the names of its parameters. */
+    private static void declarations() throws IOException {
+        String text = Files.readString(Path.of("src/main/java/Vaultgarden.java")).replaceAll("\\s+", " ");
+        int found = 0;
+        for (String line : faceOfDocument().split("\n")) {
+            if (line.endsWith(");") || line.endsWith("Exception;")) {
+                found++;
+                String declared = line.trim().replace(";", " {");
+                check.due("the class has: " + declared, text.contains(" " + declared), true);
+            }
+        }
+        check.due("declarations of the document", found > 40, true);
+    }
+
+    private static void face() throws IOException {
+        TreeSet<String> want = new TreeSet<>();
+        String part = faceOfDocument();
         Matcher line = Pattern.compile("public (\\w+) (\\w+)\\(([^)]*)\\)(?: throws ([\\w, ]+))?;").matcher(part);
         while (line.find()) {
             String types = line.group(3).replaceAll("(\\w+) \\w+", "$1").replace(" ", "");
