@@ -798,7 +798,7 @@ public final class Vaultgarden {
 
         void keep(int place, int value, int writeCount) {
             removeAt(indexOf(place));
-            if (count >= 0 && count < MOST_DRAFTS) {
+            if (count >= 0 && count < places.length && count < values.length && count < writeCounts.length) {
                 places[count] = place;
                 values[count] = value;
                 writeCounts[count] = writeCount;
@@ -835,12 +835,19 @@ public final class Vaultgarden {
             if (index < 0 || index >= count) {
                 return;
             }
-            for (int i = index; i + 1 < count && i + 1 < MOST_DRAFTS; i++) {
-                places[i] = places[i + 1];
-                values[i] = values[i + 1];
-                writeCounts[i] = writeCounts[i + 1];
+            for (int i = index; i + 1 < count; i++) {
+                takeNext(i);
             }
             count--;
+        }
+
+        private void takeNext(int index) {
+            if (index >= 0 && index < places.length - 1 && index < values.length - 1
+                    && index < writeCounts.length - 1) {
+                places[index] = places[index + 1];
+                values[index] = values[index + 1];
+                writeCounts[index] = writeCounts[index + 1];
+            }
         }
     }
 
@@ -1057,7 +1064,7 @@ public final class Vaultgarden {
             for (int i = 0; i < sharedUntil.length; i++) {
                 sharedUntil[i] = 0;
             }
-            for (int i = 0; i < count && i < MOST_EVENTS; i++) {
+            for (int i = 0; i < count && i < places.length && i < isJoining.length; i++) {
                 int place = places[i];
                 if (place >= 0 && place < sharedUntil.length) {
                     sharedUntil[place] = isJoining[i] ? WITHOUT_END : i + 1;
@@ -1071,7 +1078,7 @@ public final class Vaultgarden {
         }
 
         private void note(int group, int user, boolean isJoined) {
-            if (count >= 0 && count < MOST_EVENTS) {
+            if (count >= 0 && count < places.length && count < isJoining.length) {
                 places[count] = group * MOST_USERS + user;
                 isJoining[count] = isJoined;
                 count++;
@@ -1103,7 +1110,7 @@ public final class Vaultgarden {
         }
 
         boolean keeps(int token, int file) {
-            for (int i = 0; i < keptCount && i < MOST_KEPT; i++) {
+            for (int i = 0; i < keptCount && i < keptTokens.length && i < keptFiles.length; i++) {
                 if (keptTokens[i] == token && keptFiles[i] == file) {
                     return true;
                 }
@@ -1112,7 +1119,7 @@ public final class Vaultgarden {
         }
 
         void keep(int token, int file) {
-            if (keptCount >= 0 && keptCount < MOST_KEPT) {
+            if (keptCount >= 0 && keptCount < keptTokens.length && keptCount < keptFiles.length) {
                 keptTokens[keptCount] = token;
                 keptFiles[keptCount] = file;
                 keptCount++;
@@ -1131,7 +1138,7 @@ public final class Vaultgarden {
             } else {
                 repeatedTokens++;
             }
-            for (int i = 0; i < keptCount && i < MOST_KEPT; i++) {
+            for (int i = 0; i < keptCount && i < keptTokens.length && i < keptFiles.length; i++) {
                 int file = keptFiles[i];
                 if (keptTokens[i] == token && file >= 0 && file < isTold.length) {
                     isTold[file] = true;
@@ -1141,7 +1148,7 @@ public final class Vaultgarden {
 
         int endQuestion() {
             foundCount = 0;
-            for (int file = 0; file < MOST_FILES; file++) {
+            for (int file = 0; file < isTold.length; file++) {
                 if (isTold[file] && foundCount >= 0 && foundCount < found.length) {
                     found[foundCount] = file;
                     foundCount++;
@@ -1244,7 +1251,7 @@ public final class Vaultgarden {
         }
 
         void append(int leaf) {
-            if (keptCount >= 0 && keptCount < MOST_LEAVES) {
+            if (keptCount >= 0 && keptCount < kept.length) {
                 kept[keptCount] = leaf;
                 keptCount++;
             }
@@ -1364,7 +1371,7 @@ public final class Vaultgarden {
         }
 
         void keep(int place, int share) {
-            if (place >= 1 && place <= MOST_SHARES) {
+            if (place >= 1 && place < isKept.length && place < values.length) {
                 if (!isKept[place]) {
                     count++;
                 }
@@ -1376,7 +1383,7 @@ public final class Vaultgarden {
         // Answers how many there were.
         int clear() {
             int before = count;
-            for (int place = 1; place <= MOST_SHARES; place++) {
+            for (int place = 1; place < isKept.length; place++) {
                 isKept[place] = false;
             }
             count = 0;
@@ -1386,7 +1393,7 @@ public final class Vaultgarden {
         // The polynomial is a sum of those that are a share at its place and 0 at the other ones.
         int valueAtZero() {
             long sum = 0L;
-            for (int place = 1; place <= MOST_SHARES; place++) {
+            for (int place = 1; place < isKept.length && place < values.length; place++) {
                 if (isKept[place]) {
                     sum += values[place] * weightAtZero(place) % MODULUS;
                 }
@@ -1397,7 +1404,7 @@ public final class Vaultgarden {
         private long weightAtZero(int place) {
             long above = 1L;
             long below = 1L;
-            for (int other = 1; other <= MOST_SHARES; other++) {
+            for (int other = 1; other < isKept.length; other++) {
                 if (other != place && isKept[other]) {
                     above = above * other % MODULUS;
                     below = below * Math.floorMod(other - place, MODULUS) % MODULUS;

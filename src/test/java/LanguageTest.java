@@ -32,6 +32,7 @@ import com.sun.source.tree.WhileLoopTree;
 import com.sun.source.util.JavacTask;
 import com.sun.source.util.TreePath;
 import com.sun.source.util.TreePathScanner;
+import com.sun.source.util.TreeScanner;
 import com.sun.source.util.Trees;
 import java.io.IOException;
 import java.nio.file.Path;
@@ -190,19 +191,26 @@ public final class LanguageTest {
         return deepest + 1;
     }
 
-    /** What the method compares by one of <, <=, > and >=, as it is written. */
-    private static Set<String> comparedIn(Tree tree) {
-        Set<String> compared = new HashSet<>();
-        new com.sun.source.util.TreeScanner<Void, Void>() {
+    /** The comparisons by one of <, <=, > and >= in a method, as they are written. */
+    private static Set<String> comparisonsIn(Tree tree) {
+        Set<String> comparisons = new HashSet<>();
+        new TreeScanner<Void, Void>() {
             @Override
             public Void visitBinary(BinaryTree node, Void nothing) {
                 if (BOUNDING.contains(node.getKind())) {
-                    compared.add(node.getLeftOperand().toString());
-                    compared.add(node.getRightOperand().toString());
+                    comparisons.add(node.toString());
                 }
                 return super.visitBinary(node, nothing);
             }
         }.scan(tree, null);
+        return comparisons;
+    }
+
+    private static Set<String> comparedIn(Tree tree) {
+        Set<String> compared = new HashSet<>();
+        for (String comparison : comparisonsIn(tree)) {
+            compared.addAll(List.of(comparison.split(" [<>]=? ")));
+        }
         return compared;
     }
 
@@ -398,10 +406,13 @@ public final class LanguageTest {
 
         @Override
         public Void visitArrayAccess(ArrayAccessTree node, Void nothing) {
+            String length = node.getExpression() + ".length";
             String index = node.getIndex().toString();
-            Set<String> compared = comparedIn(methodHere());
-            boolean isCompared = compared.contains(index) || compared.contains(index + " + 1");
-            rule(7, node, "the index of " + node + " is compared", isCompared);
+            Set<String> comparisons = comparisonsIn(methodHere());
+            boolean isCompared = comparisons.contains(index + " < " + length)
+                    || comparisons.contains(index + " >= " + length)
+                    || comparisons.contains(index.replace(" + 1", "") + " < " + length + " - 1");
+            rule(7, node, "the index of " + node + " is compared with " + length, isCompared);
             return super.visitArrayAccess(node, nothing);
         }
 
@@ -509,7 +520,7 @@ public final class LanguageTest {
 
         private boolean isSetIn(Tree body, String name) {
             boolean[] isSet = new boolean[1];
-            new com.sun.source.util.TreeScanner<Void, Void>() {
+            new TreeScanner<Void, Void>() {
                 @Override
                 public Void visitAssignment(AssignmentTree node, Void none) {
                     isSet[0] |= node.getVariable().toString().equals(name);
